@@ -200,11 +200,35 @@ public final class DeskTest {
         due.is("its picture", x.sheet(0, 0, 2), 4096 * 16);
         due.is("its error", x.sum(0), 256);
         due.is("lost", x.sum(10), Float.floatToIntBits(16f));
+        due.is("its entry", x.sheet(0, 0, 0), 0);
+        undoSheet();
         due.is("seen", x.count(2), 2);
         due.is("seen entries 1 and 2: none fits", x.fits(0, 0, 0), 0);
         due.is("the plan", x.count(3), 1);
         due.is("the plan drops the entry", x.ends(0), -5);
         due.is("the book", x.looked(), 1);
+    }
+
+    private static void undoSheet() {
+        DitherDesk x = new DitherDesk();
+        x.picture(0, 3, 2);
+        for (int p = 0; p < 6; p++) {
+            x.paint(0, p % 3, p / 3, 10 * p);
+        }
+        Due.mix(x, 0, 50, 40, 30, 20, 10, 1);
+        x.make(0, 0, 0);
+        x.image();
+        x.picture(1, 4, 5);
+        x.make(1, 0, 3);
+        x.undo();
+        due.is("wide", x.sum(14), 3);
+        due.is("high", x.sum(15), 2);
+        due.is("unlike entries", x.sum(9), 6);
+        for (int p = 0; p < 6; p++) {
+            due.is("entry", x.sheet(p % 3, p / 3, 0), 5 - p);
+            due.is("its colour", x.sheet(p % 3, p / 3, 1), p == 0 ? 1 : 10 * p);
+            due.is("the picture's", x.sheet(p % 3, p / 3, 2), 10 * p);
+        }
     }
 
     private static void count() {

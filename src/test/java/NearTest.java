@@ -110,6 +110,12 @@ public final class NearTest {
             due.is("NONE ahead of BAD", x.near(p, -1, -1), -1);
         }
         due.is("no entries", x.near(0, 0, 0), -2);
+        x.drop(1, 4);
+        int[] rest = {2, 3, 0, 1};
+        for (int k = 0; k < 4; k++) {
+            due.is("without the last, near " + k, x.near(1, red(15), k), rest[k]);
+        }
+        due.is("without the last", x.near(1, red(15), 4), -2);
         Due.mix(x, 1, Due.rgb(10, 0, 0), Due.rgb(0, 8, 0), Due.rgb(0, 6, 6), Due.rgb(5, 5, 0));
         int[][] orders = {{3, 1, 2, 0}, {3, 0, 2, 1}, {3, 2, 1, 0}, {1, 0, 3, 2}};
         for (int metric = 0; metric < 4; metric++) {

@@ -17,6 +17,7 @@ public final class PaletteTest {
         cut();
         cutLocked();
         refine();
+        refineSixteen();
         refineToColoursThatAreThere();
         due.close();
     }
@@ -210,6 +211,9 @@ public final class PaletteTest {
         coloursAre(x, 2, red(0), red(1), red(2), red(3));
         due.is("downwards, cut", Due.readAll(x, 3, "10,0,0>0,0,1:8"), 8);
         coloursAre(x, 3, red(10), red(8), red(7), red(5), red(4), red(2), red(1), 1);
+        due.is("to black", Due.readAll(x, 1, "8,0,0>0,0,0:2;"), -24);
+        due.is("to black", Due.readAll(x, 1, "8,0,0>0,0,0:2"), 2);
+        due.is("to black", x.told(1, 3, 0), 0);
         due.is("from a colour to itself", Due.readAll(x, 1, "5,5,5>5,5,5:7"), 1);
     }
 
@@ -248,6 +252,18 @@ public final class PaletteTest {
         due.is("a thirteenth", Due.readAll(x, 1, twelve + ";1,1,1"), -10 - length);
         due.is("a twelfth ;", Due.readAll(x, 1, twelve + ";"), -10 - length);
         due.is("what comes behind the twelfth", Due.readAll(x, 1, twelve + "!x"), -11 - length);
+        StringBuilder ramps = new StringBuilder();
+        for (int i = 0; i < 6; i++) {
+            ramps.append("9,9,9>9,9,9:8;");
+        }
+        due.is("like ones, then two more", Due.readAll(x, 2, ramps + "1,1,1>2,2,2:8!"), 3);
+        coloursAre(x, 2, Due.rgb(9, 9, 9), Due.rgb(1, 1, 1), Due.rgb(2, 2, 2));
+        due.is("locks", x.told(2, 0, 1), 0);
+        due.is("locks", x.told(2, 1, 1), 1);
+        due.is("locks", x.told(2, 2, 1), 1);
+        x.drop(2, 0);
+        x.drop(2, 0);
+        x.drop(2, 0);
         due.is("no room", Due.readAll(x, 0, "1,0,0>8,0,0:8"), 4);
         due.is("sixteen", x.count(1), 16);
         due.is("the last", x.told(0, 15, 0), red(4));
@@ -285,7 +301,9 @@ public final class PaletteTest {
             due.is("n " + n, x.cut(2, 1, n), -2);
         }
         due.is("work still", x.count(6), 3);
-        Due.spend(x, 6000);
+        Due.spend(x, 5999);
+        due.is("the last", x.cut(2, 1, 1), 1);
+        due.is("6000", x.count(6), 6000);
         due.is("FULL", x.cut(2, 1, 4), -4);
         due.is("BAD ahead of FULL", x.cut(2, 1, 0), -2);
         coloursAre(x, 2, red(23));
@@ -366,6 +384,20 @@ public final class PaletteTest {
         due.is("just in", x.refine(1, 2, 10), 0);
         due.is("6000", x.count(6), 6000);
         due.is("FULL", x.refine(1, 2, 1), -4);
+    }
+
+    private static void refineSixteen() {
+        DitherDesk x = new DitherDesk();
+        x.picture(0, 8, 4);
+        for (int e = 0; e < 16; e++) {
+            x.entry(0, Due.rgb(4 * e, 2 * e, 60 - 4 * e));
+            x.paint(0, e % 8, e / 8, Due.rgb(4 * e, 2 * e + 1, 60 - 4 * e));
+            x.paint(0, e % 8, 2 + e / 8, Due.rgb(4 * e + 1, 2 * e + 1, 61 - 4 * e));
+        }
+        due.is("sixteen entries", x.refine(0, 0, 20), 1);
+        for (int e = 0; e < 16; e++) {
+            due.is("entry " + e, x.told(0, e, 0), Due.rgb(4 * e + 1, 2 * e + 1, 61 - 4 * e));
+        }
     }
 
     private static void refineToColoursThatAreThere() {

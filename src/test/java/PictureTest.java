@@ -225,6 +225,9 @@ public final class PictureTest {
     private static void common() {
         due.promise(9);
         DitherDesk x = new DitherDesk();
+        x.picture(1, 12, 12);
+        x.shade(1, 0, 262143);
+        due.is("twelve alike", x.common(1, 11), 262143);
         Due.row(x, 2, 7, 9, 3, 7, 3, 12, 1, 12, 12);
         int[] order = {12, 3, 7, 1, 9};
         for (int k = 0; k < 5; k++) {
@@ -329,6 +332,10 @@ public final class PictureTest {
         Due.row(x, 0, Due.rgb(5, 2, 0), Due.rgb(5, 0, 0), Due.rgb(5, 1, 0), Due.rgb(0, 3, 0));
         boxIs(x, 2, 0, 2, 2, Due.rgb(3, 2, 0), 5, Due.rgb(0, 3, 0)); // of like red, by numbers
         boxIs(x, 2, 1, 2, 2, Due.rgb(5, 2, 0), 1, Due.rgb(5, 1, 0));
+        int d = Due.rgb(0, 5, 0);
+        Due.row(x, 0, d, d, d, Due.rgb(1, 0, 0), Due.rgb(1, 9, 0));
+        boxIs(x, 2, 0, 4, 2, Due.rgb(0, 4, 0), 5, d); // by green 0, 5, 9, though 5 has the least number
+        boxIs(x, 2, 1, 1, 1, Due.rgb(1, 9, 0), 0, Due.rgb(1, 9, 0));
     }
 
     private static void boxAnswers() {

@@ -12,6 +12,7 @@ public final class SheetTest {
         makeByChannels();
         makeClipped();
         makeByScreens();
+        greatestOfScreens();
         makeTurned();
         sheet();
         sum();
@@ -224,6 +225,25 @@ public final class SheetTest {
         }
     }
 
+    /** Darker than above: the greatest number has entries above its own, too. */
+    private static void greatestOfScreens() {
+        DitherDesk x = new DitherDesk();
+        for (int v = 0; v < 16; v++) {
+            x.entry(0, red(v));
+        }
+        x.picture(0, 4, 4);
+        x.shade(0, red(2), red(2));
+        int[] strength = {16, 16, 18};
+        int[][] greatest = {{0, 1, 8}, {0, 3, 10}, {1, 0, 10}}; // 2 + 6, 2 + 7.5, 2 + 8
+        for (int screen = 0; screen < 3; screen++) {
+            x.rule(2, screen);
+            x.rule(3, strength[screen]);
+            x.make(0, 0, 3);
+            int[] due3 = greatest[screen];
+            due.is("greatest of screen " + screen, x.sheet(due3[0], due3[1], 0), due3[2]);
+        }
+    }
+
     private static void makeTurned() {
         DitherDesk x = new DitherDesk();
         int[] strength = {16, 16, 18};
@@ -293,6 +313,10 @@ public final class SheetTest {
         for (int what = -1; what < 17; what++) {
             due.is("none is made " + what, x.sum(what), NO);
         }
+        x.picture(2, 12, 12);
+        x.entry(3, 262143);
+        x.make(2, 3, 0);
+        due.is("a greater sheet, made ahead", x.sum(3), 3 * 144 * 3969);
         x.picture(0, 3, 3);
         Due.mix(x, 0, 0, Due.rgb(10, 20, 30));
         int[] colours = {Due.rgb(1, 0, 0), Due.rgb(2, 0, 0), Due.rgb(0, 5, 0), Due.rgb(0, 0, 3), Due.rgb(9, 22, 30),

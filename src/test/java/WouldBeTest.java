@@ -163,9 +163,9 @@ public final class WouldBeTest {
         x.see(-1, 0, 0);
         x.see(0, 0, 7);
         due.is("the least strength", x.fits(0, 0, 1), 0);
-        for (int[] off : new int[][] {{2, 0}, {0, 2}, {11, 11}}) {
+        for (int[] off : new int[][] {{2, 0, 7}, {2, 1, 0}, {0, 2, 0}, {0, 2, 7}, {1, 2, 0}, {11, 11, 0}}) {
             x.see(-1, 0, 0);
-            x.see(off[0], off[1], 7);
+            x.see(off[0], off[1], off[2]);
             due.is("a pixel that isn't there", x.fits(0, 0, 0), 0);
             due.is("a pixel that isn't there", x.fits(0, 0, 1), -5);
         }
