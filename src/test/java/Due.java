@@ -54,16 +54,17 @@ final class Due {
     static void spend(DitherDesk desk, int work) {
         desk.picture(3, 1, 1);
         desk.entry(3, 0);
-        while (desk.count(6) + 64 <= work) {
+        // counted loops: a desk that counts wrongly must not keep the test from its end
+        for (int i = 0; i < 93 && desk.count(6) + 64 <= work; i++) {
             desk.fits(3, 3, 0);
         }
-        while (desk.count(6) + 17 <= work) {
+        for (int i = 0; i < 3 && desk.count(6) + 17 <= work; i++) {
             desk.spared(3, 3, 0);
         }
-        while (desk.count(6) + 5 <= work) {
+        for (int i = 0; i < 3 && desk.count(6) + 5 <= work; i++) {
             desk.best(3, 3, 0);
         }
-        while (desk.count(6) < work) {
+        for (int i = 0; i < 4 && desk.count(6) < work; i++) {
             desk.box(3, 1, 0, 0);
         }
     }
@@ -78,7 +79,7 @@ final class Due {
 
     /** A palette of just these entries, none locked. */
     static void mix(DitherDesk desk, int palette, int... colours) {
-        while (desk.told(palette, 0, 0) >= 0) {
+        for (int e = 0; e < 16 && desk.told(palette, 0, 0) >= 0; e++) {
             desk.drop(palette, 0);
         }
         for (int colour : colours) {

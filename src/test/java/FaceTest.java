@@ -35,6 +35,7 @@ public final class FaceTest {
         face();
         inside();
         source();
+        promises();
         due.close();
     }
 
@@ -99,6 +100,18 @@ public final class FaceTest {
         for (Executable m : c.getDeclaredMethods()) {
             due.holds(m + ": seven parameters at most", m.getParameterCount() <= 7);
             due.holds(m + ": no name of the face", isOfFace(m) || !names.contains(m.getName()));
+        }
+    }
+
+    /** Each promise has its own tests, each of them with the document's words. */
+    private static void promises() throws Exception {
+        for (int promise = 1; promise <= FACE.length + 1; promise++) {
+            String name = "Promise" + promise / 10 + promise % 10 + "Test";
+            String text = Files.readString(Path.of("src/test/java/promises/" + name + ".java"), StandardCharsets.UTF_8);
+            due.holds(name + " runs its own tests", text.contains("runTestsOf(" + name + ".class);"));
+            int tests = text.split("\n    @Says\\(\"[^\n]*\"\\)\n    static void ", -1).length - 1;
+            int methods = text.split("\n    static void ", -1).length - 1;
+            due.is(name + ": tests with the document's words", tests, methods);
         }
     }
 

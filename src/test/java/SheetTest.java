@@ -245,10 +245,10 @@ public final class SheetTest {
     }
 
     private static void makeTurned() {
-        DitherDesk x = new DitherDesk();
         int[] strength = {16, 16, 18};
         int[] base = {8, 8, 10};
         for (int screen = 0; screen < 3; screen++) {
+            DitherDesk x = new DitherDesk();
             int n = SCREENS[screen].length;
             int width = WIDTHS[screen];
             x.rule(2, screen);
