@@ -448,12 +448,12 @@ public final class DitherDesk {
             return FULL;
         }
         work += 5;
-        int bestWay = PLAIN;
-        int least = Integer.MAX_VALUE;
+        int bestWay = NEVER;
+        int least = NEVER;
         for (int way = PLAIN; way <= TURNED; way++) {
             trial.sheet.makeFrom(shown, mixed, way, now.rules);
             int blocks = trial.sheet.blocksOnAll();
-            if (blocks < least) {
+            if (bestWay == NEVER || blocks < least) {
                 least = blocks;
                 bestWay = way;
             }
@@ -847,7 +847,7 @@ public final class DitherDesk {
         if (v == 0.0f) {
             return 0;
         }
-        int sign = v < 0.0f ? Integer.MIN_VALUE : 0;
+        int sign = v < 0.0f ? 1 << 31 : 0;
         float rest = v < 0.0f ? -v : v;
         int power = 127;
         while (rest >= 2.0f && power < 254) {

@@ -10,6 +10,8 @@ import java.nio.file.Path;
 import java.util.Arrays;
 import java.util.Set;
 import java.util.TreeSet;
+import java.util.regex.Matcher;
+import java.util.regex.Pattern;
 
 /** The public face is the document's, and the source keeps to what a look can tell of LANGUAGE.md. */
 public final class FaceTest {
@@ -103,6 +105,16 @@ public final class FaceTest {
         }
     }
 
+    /** Rule 4: of Math and its like no more than functions that are listed; NO's number is the document's own. */
+    private static void library(String text) {
+        String own = text.replace("public static final long NO = Long.MIN_VALUE;", "");
+        Matcher used = Pattern.compile("\\b(Math|Integer|Long|Float|Character|Arrays|Short|Byte|Boolean)\\.(\\w+\\(?)").matcher(own);
+        while (used.find()) {
+            due.holds("the library has " + used.group(),
+                used.group(1).equals("Math") && Set.of("abs(", "min(", "max(").contains(used.group(2)));
+        }
+    }
+
     /** Each promise has its own tests, each of them with the document's words. */
     private static void promises() throws Exception {
         for (int promise = 1; promise <= FACE.length + 1; promise++) {
@@ -125,6 +137,7 @@ public final class FaceTest {
             due.holds("the source has no '" + word + "'", !text.contains(word));
         }
         due.holds("only plain signs", text.chars().allMatch(sign -> sign < 128));
+        library(text);
         for (String line : text.split("\n")) {
             if (line.contains("new ")) {
                 // what is made is made with the desk: the room of all calls is not used up
